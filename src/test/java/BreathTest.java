@@ -128,6 +128,8 @@ public final class BreathTest {
         Checks.due("not so many left is asked first", bed.pump(10), -2);
         Checks.due("waits(1)", bed.waits(1, true), -1);
         bed.undo();
+        Checks.due("pump(9)", bed.pump(9), 50);
+        bed.undo();
         Checks.due("waits(9)", bed.waits(9, true), 50);
     }
 

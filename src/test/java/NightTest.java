@@ -168,6 +168,9 @@ public final class NightTest {
         Checks.due("no LEAK", bed.tried(0, 0, 2), 94);
         Checks.due("OPEN", bed.tried(1, 0, 2), 64);
         Checks.due("no LOAD", bed.tried(2, 0, 2), 90);
+        Checks.due("LOAD again", bed.law(0, 0), 3);
+        Checks.due("LOAD again", bed.lasts(100, 99), 1);
+        Checks.due("LOAD again", bed.tried(0, 0, 1), 97);
         Checks.due("the pump, longer than it is lent", bed.tried(3, 0, 3), 136);
         Checks.due("LEAK 1", bed.tried(4, 1, 2), 76);
         Checks.due("LEAK 0", bed.tried(4, 0, 2), 84);

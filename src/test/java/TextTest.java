@@ -114,6 +114,20 @@ public final class TextTest {
     }
 
     private static void faultsOfNumbers() {
+        int[] most = {99, 20, 20, 9, 99, 9, 99};
+        int[] least = {1, 0, 1, 1, 0, 0, 0};
+        for (int i = 0; i < 7; i++) {
+            numberOfBlower(i, most[i] + 1, most[i], least[i]);
+        }
+        Checks.fault("slip 1000;", 2, 5);
+        Checks.fault("seed 100000;", 2, 5);
+        Checks.fault("pump 1 100;", 2, 7);
+        Checks.fault("leak 1 100;", 2, 7);
+        Checks.fault("leak 0 1;", 2, 5);
+        Checks.fault("trial s 0 1;", 2, 8);
+        Checks.fault("trial s 1 0;", 2, 10);
+        Checks.fault("bed 7 8;", 2, 6);
+        Checks.fault(BLOWER + "turn a 21;", 2, 30);
         Checks.fault("bed 10000;", 2, 4);
         Checks.fault("bed 99999999999999999999;", 2, 4);
         Checks.fault("bed 4294967297;", 2, 4);
@@ -130,6 +144,17 @@ public final class TextTest {
                 + "pump 99 99;leak 99 99;trial abcdef 100 99;slip 999;seed 99999;law lose 9999;").count(0), 9999);
         Checks.due("the least", Checks.bed("bed 1 0;blower a 1 0 1 1 0 0 0;turn a 1;"
                 + "pump 1 1;leak 1 0;trial a 1 1;slip 0;seed 0;law lose 0;").count(0), 1);
+    }
+
+    private static void numberOfBlower(int which, int above, int most, int least) {
+        String ahead = "blower a" + " 1".repeat(which) + " ";
+        String behind = " 1".repeat(6 - which) + ";";
+        Checks.fault(ahead + above + behind, 2, ahead.length());
+        if (least > 0) {
+            Checks.fault(ahead + (least - 1) + behind, 2, ahead.length());
+        }
+        Checks.bed(ahead + most + behind);
+        Checks.bed(ahead + least + behind);
     }
 
     private static void faultsOfTooMany() {
@@ -149,6 +174,11 @@ public final class TextTest {
 
     private static void faultsOfTellingTwice() {
         Checks.fault("pump 1 1;pump", 3, 9);
+        Checks.fault("bed 5;bed", 3, 6);
+        Checks.fault("slip 1;slip", 3, 7);
+        Checks.fault(BLOWER + BLOWER, 3, 30);
+        Checks.fault("trial s 1 1;trial s 1 1;", 3, 18);
+        Checks.fault("law lose 1;law lose", 3, 15);
         Checks.fault("seed 1;seed 1;", 3, 7);
         Checks.fault("law fill 1;law fill 1;", 3, 15);
         Checks.fault("law load 1;law load 1;", 3, 15);
@@ -177,6 +207,8 @@ public final class TextTest {
         Checks.fault("law lose lose;", 1, 9);
         Checks.fault("law lose 10000;", 2, 9);
         Checks.fault("law lose ((((((((1))))))) + (1;", 1, 30);
+        Checks.fault("law lose (((((((((1)))))))));", 2, 17);
+        Checks.fault("law lose ((((((((1)+((1;", 2, 21);
         Checks.due("eight open", Checks.bed("law lose ((((((((1))))))))+((((((((1))))))));").count(6), 3);
         Checks.due("64 KNOTS", Checks.bed("law lose 1" + "+1".repeat(31) + ";law fill 0;").count(6), 64);
         Checks.fault("law lose 1" + "+1".repeat(32) + ";", 2, 73);
