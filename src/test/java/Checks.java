@@ -2,15 +2,21 @@
 final class Checks {
     private static int wrong = 0;
     private static int asked = 0;
+    private static String sentence = "";
 
     private Checks() {
+    }
+
+    /** The sentence of the document that the answers asked from here on stand for. */
+    static void says(String words) {
+        sentence = "\"" + words + "\": ";
     }
 
     static void due(String call, long got, long want) {
         asked++;
         if (got != want) {
             wrong++;
-            System.out.println(call + " answered " + got + ", due is " + want);
+            System.out.println(sentence + call + " answered " + got + ", due is " + want);
         }
     }
 
@@ -44,6 +50,10 @@ final class Checks {
             System.out.println("fault " + bed.fault(0) + " at " + bed.fault(1) + " in: " + text);
         }
         return bed;
+    }
+
+    static void taken(String text, int lines) {
+        due("text: " + text, tell(new AirBed(), text), lines);
     }
 
     static void fault(String text, int what, int at) {
