@@ -137,6 +137,11 @@ public final class NightEdgeTest {
         up(bed, 11, 30, 9);
         // bound 0 is never gone below
         up(bed, 3600, 0);
+        // what a SECOND that isn't OPEN would lose isn't lost by getting up
+        AirBed open = Checks.bed("bed 100 50;blower a 20 0 1 1 9 1 5;law lose (second = 0) * (1 - open) * 9;");
+        up(open, 1, 41);
+        up(open, 1, 42, 0);
+        up(open, 2, 50, 0);
     }
 
     private static void getsUpThen() {
@@ -333,6 +338,9 @@ public final class NightEdgeTest {
         // the emptier, the more is lost: early
         AirBed early = Checks.bed("bed 100 50;pump 10 2;law lose room / 10;");
         lend(early, 4, 0, 50 - 5 + 10 - 4 + 10 - 3 - 4);
+        // none of these SECONDS is OPEN
+        lend(Checks.bed("bed 100 50;pump 10 2;law lose open * 9;"), 5, 0, 70);
+        lend(Checks.bed("bed 100 100;pump 1 1;law lose (second = 1) + open * 9;"), 5, 1, 100);
         // half of it is lost behind four SECONDS
         AirBed once = Checks.bed("bed 100 50;pump 10 2;law lose (second = 4) * full / 2;");
         lend(once, 7, 4, 25 + 20);
@@ -375,6 +383,8 @@ public final class NightEdgeTest {
         for (int what : whats) {
             Checks.due("lend(5, " + what + ")", bed.lend(5, what), -1);
         }
+        bed.pump(1);
+        lend(bed, 0, -1, -1);
         lend(new AirBed(), 5, -1, -1);
         lend(Checks.bed("bed 5;"), 600, -1, -1);
     }

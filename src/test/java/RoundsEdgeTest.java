@@ -14,6 +14,7 @@ public final class RoundsEdgeTest {
         upToTimes();
         noneIsDizzy();
         greatestThenFewestThenFirst();
+        bestOfFour();
         bestRefused();
         bestOfNone();
         rulesAtFirst();
@@ -23,6 +24,7 @@ public final class RoundsEdgeTest {
         allAreDizzy();
         greatestByTakes();
         oneEach();
+        rulesOfFour();
         rulesRefused();
         fairest();
         Checks.finish();
@@ -202,6 +204,31 @@ public final class RoundsEdgeTest {
         best(Checks.bed("blower a 10 0 1 3 99 0 0;blower b 4 0 2 1 99 0 0;law lose 0;"), 1, 10, 3, 0, 1, -2);
         // BREATHS of 0 only cost SECONDS
         best(Checks.bed("blower a 5 5 9 1 99 0 0;law lose 0;"), 1, 5, 1, 0, 1, -2);
+    }
+
+    private static final String FOUR = "blower a 1 0 2 1 99 0 0;blower b 2 0 2 1 99 0 0;blower c 3 0 2 1 99 0 0;"
+            + "blower d 4 0 2 1 99 0 0;";
+
+    private static void bestOfFour() {
+        Checks.says("BLOWERS, at most 4: BEST");
+        best(Checks.bed(FOUR + "law lose 0;"), 1, 8, 2, 3, 2, -2);
+        best(Checks.bed(FOUR + "law lose 0;"), 2, 14, 4, 2, 2, 3, 2, -2);
+        AirBed one = Checks.bed(FOUR);
+        Checks.tell(one, FOUR);
+        Checks.tell(one, "blower a 1 0 2 1 99 0 0;law lose 0;");
+        best(one, 1, 2, 2, 0, 2, -2);
+        best(one, 2, 2, 2, 0, 1, 0, 1, -2);
+    }
+
+    private static void rulesOfFour() {
+        Checks.says("BLOWERS, at most 4: RULES");
+        // 1: a a b b c c d d, 2: d d c c b b a a, 3: a b c d a b c d
+        rules("bed 12;" + FOUR + "turn d 1;turn c 1;law lose 0;", 4, 6, 4, 6);
+        rules("bed 20;" + FOUR + "turn a 2;turn b 2;turn c 2;turn d 2;law lose 0;", 8, 8, 8, 8);
+        AirBed one = Checks.bed(FOUR);
+        Checks.tell(one, FOUR);
+        Checks.tell(one, "bed 2;blower a 1 0 2 1 99 0 0;law lose 0;");
+        rules("one of four told ahead", one, -1, 2, 2, 2);
     }
 
     private static void bestRefused() {

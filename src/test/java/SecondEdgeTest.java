@@ -139,6 +139,12 @@ public final class SecondEdgeTest {
         Checks.due("breath of lose", breath.law(0, 1), 0);
         Checks.due("breath of fill", breath.law(1, 999), 999);
         Checks.due("breath and load of load", breath.law(2, 999), 0);
+        Checks.due("breath of a SECOND that goes by", Checks.bed("bed 500 100;law lose 5 - breath;").waits(2, true), 90);
+        AirBed both = Checks.bed("bed 500 100;blower a 9 0 2 1 0 0 0;law lose load;law fill load;law load breath;");
+        for (int i = 0; i < 2; i++) {
+            Checks.due("breath of load, asked for fill", both.law(1, 7), 0);
+            Checks.due("breath of load, filled", both.blow(0, 2), 100);
+        }
         AirBed behind = Checks.bed("bed 500 100;blower a 9 0 1 3 0 0 0;law lose 10;law fill second * 10 + full / 10;");
         Checks.due("fill is behind all SECONDS of the BREATH", behind.blow(0, 1), 70 + 37);
     }
@@ -212,6 +218,8 @@ public final class SecondEdgeTest {
         Checks.due("more than a long, as a long 0", value("(" + MOST + ") * (" + MOST + ")"), ERROR);
         // 2 to the 32, squared, is 0 for a long
         Checks.due("2 to the 64", value("(4096 * 4096 * 256) * (4096 * 4096 * 256)"), ERROR);
+        Checks.due("2 to the 64", value("1024 * (4096 * 4096) * (64 * (4096 * 4096))"), ERROR);
+        Checks.due("2 to the 64", value("64 * (4096 * 4096) * (1024 * (4096 * 4096))"), ERROR);
     }
 
     private static void errorsOnTheWay() {
@@ -511,6 +519,8 @@ public final class SecondEdgeTest {
         Checks.due("two are left", bed.blow(0, 2), 100);
         Checks.due("none is left", bed.blow(0, 1), -2);
         Checks.due("20 of one DIZZY", bed.blow(0, 20), -2);
+        Checks.due("RESTS 1", Checks.bed("blower a 5 1 3 2 1 0 0;").blow(0, 4), -2);
+        Checks.due("RESTS 0", Checks.bed("blower a 5 1 3 2 0 0 0;").blow(0, 4), 20);
     }
 
     /** A bed at 99990 SECONDS. */

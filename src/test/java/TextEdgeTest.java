@@ -37,6 +37,8 @@ public final class TextEdgeTest {
         lengthOfText();
         behindAText();
         allStaysWithAFault();
+        nothingIsLeftOfTextsAhead();
+        nothingIsLeftOfFaults();
         faultOfTheLatest();
         named();
         Checks.finish();
@@ -137,6 +139,19 @@ public final class TextEdgeTest {
         Checks.fault("blower 1 0 1 1 0 0 0;", 1, 7);
         Checks.fault("blower a b 1 0 1 1 0 0 0;", 1, 9);
         Checks.fault("trial 1 1;", 1, 6);
+        Checks.says("LINE: law KIND E. KIND: lose | fill | load");
+        Checks.fault("law;", 1, 3);
+        Checks.fault("law 1;", 1, 4);
+        Checks.fault("law lose;", 1, 8);
+        for (String word : WORDS) {
+            boolean kind = word.equals("lose") || word.equals("fill") || word.equals("load");
+            if (kind) {
+                Checks.taken("law " + word + " 1;", 1);
+            } else {
+                Checks.fault("law " + word + " 1;", 1, 4);
+                Checks.fault("law " + word + ";", 1, 4);
+            }
+        }
     }
 
     private static void lettersOfNames() {
@@ -148,6 +163,16 @@ public final class TextEdgeTest {
         }
         Checks.fault("blower zyxwvut 1 0 1 1 0 0 0;", 1, 7);
         Checks.fault("trial zyxwvut 1 1;", 1, 6);
+        AirBed cut = new AirBed();
+        Checks.feed(cut, "turn abcdefg 1;");
+        Checks.due("a seventh letter behind the n-th byte", cut.text(11), -1);
+        Checks.due("six letters", cut.fault(0), 4);
+        Checks.feed(cut, "turn abcdefg 1;");
+        Checks.due("a seventh letter as the n-th byte", cut.text(12), -1);
+        Checks.due("seven letters", cut.fault(0), 1);
+        Checks.feed(cut, " ".repeat(689) + "turn abcdef");
+        Checks.due("six letters up to the 700th byte", cut.text(700), -1);
+        Checks.due("six letters", cut.fault(0), 4);
         // its first six letters are a BLOWER
         Checks.fault("blower zyxwvu 1 0 1 1 0 0 0;turn zyxwvut 1;", 1, 33);
     }
@@ -355,6 +380,13 @@ public final class TextEdgeTest {
         Checks.fault("law lose 1 <=> 2;", 1, 13);
         Checks.fault("law lose 1 <>= 2;", 1, 13);
         Checks.fault("law lose 1 >=", 1, 13);
+        AirBed cut = new AirBed();
+        Checks.feed(cut, "law lose 1 <= 2;");
+        Checks.due("a = behind the n-th byte", cut.text(12), -1);
+        Checks.due("it doesn't belong to it", cut.fault(1), 12);
+        Checks.feed(cut, " ".repeat(688) + "law lose 1 <");
+        Checks.due("< as the 700th byte", cut.text(700), -1);
+        Checks.due("the length", cut.fault(1), 700);
         Checks.fault("law lose 1 <", 1, 12);
     }
 
@@ -574,6 +606,57 @@ public final class TextEdgeTest {
         Checks.due("a FAULT at its beginning", Checks.tell(other, "?"), -1);
         so = Whole.of(other).replace("fault 1 0\n", "fault 0 -1\n");
         Checks.due("all is as it was", so.equals(Whole.of(used())), true);
+    }
+
+    private static void nothingIsLeftOfTextsAhead() {
+        Checks.says("A TEXT without LINES");
+        String text = "bed 50 9;blower a 5 1 2 1 9 3 0;turn a 1;pump 1 5;leak 1 0;trial s 5 5;slip 999;seed 3;law lose open;"
+                + "law fill load;law load 7;";
+        for (int texts = 1; texts <= 3; texts++) {
+            AirBed bed = new AirBed();
+            for (int i = 0; i < texts; i++) {
+                Checks.due("lines", Checks.tell(bed, text), 11);
+            }
+            Checks.due("no lines", bed.text(0), 0);
+            Checks.due("as new behind " + texts, Whole.of(bed).equals(Whole.of(new AirBed())), true);
+        }
+        AirBed knots = new AirBed();
+        for (int i = 0; i < 4; i++) {
+            Checks.due("64 KNOTS", Checks.tell(knots, "law lose not 1" + "-1".repeat(31) + ";"), 1);
+            Checks.due("KNOTS", knots.count(6), 64);
+            Checks.due("its value", knots.law(0, 0), 0);
+            Checks.due("no other law", knots.law(1, 0), Long.MIN_VALUE);
+        }
+        AirBed slip = Checks.bed("bed 9 9;law lose open;slip 999;");
+        Checks.tell(slip, "bed 9 9;law lose open;slip 999;");
+        Checks.tell(slip, "bed 9 9;law lose open;");
+        Checks.due("slip 0", slip.chance(0, 1, 9), 10);
+        AirBed seed = Checks.bed("seed 3;leak 1 0;leak 2 0;leak 1 0;");
+        Checks.tell(seed, "seed 3;leak 1 0;leak 2 0;leak 1 0;");
+        Checks.tell(seed, "leak 1 0;leak 2 0;leak 1 0;");
+        Checks.due("seed 0", seed.leak(), 0);
+    }
+
+    private static void nothingIsLeftOfFaults() {
+        Checks.says("NONE with a FAULT: the next one is read as the first");
+        String[] faults = {"law lose ((((((((1", "law lose 1 +", "law lose not not", "law lose 1 or 2 and 3 < 4 + 5 *",
+            "law lose (1 + (2 * (", "bed 5;pump 1 1;slip 1;seed 1;law lose 1;law fill 1;law load 1;" + A + "trial a 1 1;?"};
+        for (String fault : faults) {
+            AirBed bed = new AirBed();
+            for (int i = 0; i < 12; i++) {
+                Checks.due(fault, Checks.tell(bed, fault), -1);
+            }
+            Checks.due("lines", Checks.tell(bed, "bed 9 4;law fill 5 - 2;law lose ((((((((7))))))));law load 6;"), 4);
+            Checks.due("lose", bed.law(0, 0), 7);
+            Checks.due("fill", bed.law(1, 0), 3);
+            Checks.due("load", bed.law(2, 0), 6);
+            Checks.due("KNOTS", bed.count(6), 5);
+            AirBed other = new AirBed();
+            Checks.tell(other, fault);
+            Checks.due("none", Checks.tell(other, fault), -1);
+            Checks.due("no lines", other.text(0), 0);
+            Checks.due("as new", Whole.of(other).equals(Whole.of(new AirBed())), true);
+        }
     }
 
     private static void faultOfTheLatest() {
