@@ -621,7 +621,6 @@ public final class AirBed {
 
     /** What a TEXT tells: nothing of it changes till the next one. */
     private static final class Plan {
-        int told;
         int holds;
         int first;
         int blowers;
@@ -651,7 +650,6 @@ public final class AirBed {
         }
 
         void clear() {
-            told = 0;
             holds = 500;
             first = 0;
             blowers = 0;
@@ -808,7 +806,8 @@ public final class AirBed {
                     return a - b;
                 case OP_TIMES:
                     // asked by a division, as the product may be more than a long holds
-                    return a != 0 && Math.abs(b) > VALUE_MOST / Math.abs(a) ? ERROR : a * b;
+                    long most = a == 0 ? VALUE_MOST : VALUE_MOST / (a < 0 ? -a : a);
+                    return b > most || b < -most ? ERROR : a * b;
                 case OP_BY:
                     return b == 0 ? ERROR : a / b;
                 case OP_OR:
@@ -872,6 +871,7 @@ public final class AirBed {
         private int[] tape = new int[0];
         private int length;
         private Plan plan;
+        private int told;
         private int next;
         private int at;
         private int kind;
@@ -895,6 +895,7 @@ public final class AirBed {
             length = n;
             plan = into;
             plan.clear();
+            told = 0;
             lines = 0;
             fault = 0;
             faultAt = NONE;
@@ -1062,10 +1063,10 @@ public final class AirBed {
 
         /** Goes behind the word of a LINE that is told once. */
         private void tellOnce(int word) {
-            if ((plan.told >> word & 1) != 0) {
+            if ((told >> word & 1) != 0) {
                 fail(3);
             }
-            plan.told |= 1 << word;
+            told |= 1 << word;
             advance();
         }
 
@@ -1193,11 +1194,11 @@ public final class AirBed {
                 fail(1);
                 return;
             }
-            if ((plan.told >> value & 1) != 0) {
+            if ((told >> value & 1) != 0) {
                 fail(3);
                 return;
             }
-            plan.told |= 1 << value;
+            told |= 1 << value;
             advance();
             plan.laws.begin(law);
             pendings = 0;

@@ -31,8 +31,11 @@ public final class FaceTest {
         Checks.due("final", Modifier.isFinal(AirBed.class.getModifiers()), true);
         Checks.due("NONE", AirBed.NONE, -1);
         fields(AirBed.class);
+        fewFields(AirBed.class);
         hiddenMethods(AirBed.class, names);
+        Checks.due("twelve classes at most", AirBed.class.getDeclaredClasses().length < 12, true);
         for (Class<?> inside : AirBed.class.getDeclaredClasses()) {
+            fewFields(inside);
             Checks.due("private " + inside, Modifier.isPrivate(inside.getModifiers()), true);
             Checks.due("static " + inside, Modifier.isStatic(inside.getModifiers()), true);
             hiddenMethods(inside, names);
@@ -52,6 +55,12 @@ public final class FaceTest {
             Checks.due("field " + field, Modifier.isPrivate(how) || field.getName().equals("NONE"), true);
             Checks.due("static is final: " + field, !Modifier.isStatic(how) || Modifier.isFinal(how), true);
         }
+    }
+
+    private static void fewFields(Class<?> of) {
+        long fields = Arrays.stream(of.getDeclaredFields()).filter(field -> !Modifier.isStatic(field.getModifiers()))
+                .count();
+        Checks.due("twenty fields at most: " + of + " has " + fields, fields <= 20, true);
     }
 
     private static void hiddenMethods(Class<?> of, Set<String> names) {
